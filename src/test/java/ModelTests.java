@@ -327,7 +327,8 @@ public final class ModelTests {
         Random random = new Random(1);
         for (int call = 0; call < 4000; call++) {
             int actor = call % 8;
-            int seq = Math.min(255, call / 8 + 1 + random.nextInt(2));
+            // In order until well behind the 512th, then with gaps, so that both rows are filled.
+            int seq = Math.min(255, call / 8 + 1 + (call < 1000 ? 0 : random.nextInt(2)));
             int i = random.nextInt(70);
             int what = random.nextInt(5);
             String[] answers = {

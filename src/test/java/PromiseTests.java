@@ -216,8 +216,12 @@ public final class PromiseTests {
             due("known(3, " + seq + ")", bit(gate.known(3, seq)), 0);
             due("known(1, " + seq + ")", bit(gate.known(1, seq)), 0);
         }
+        CausalGate each = new CausalGate();
+        for (int actor = 0; actor < 8; actor++) {
+            each.offer(actor, 1, 0L, 1);
+        }
         for (int actor : WRONG_ACTORS) {
-            due("known(" + actor + ", 1)", bit(gate.known(actor, 1)), 0);
+            due("known(" + actor + ", 1)", bit(each.known(actor, 1)), 0);
         }
         for (int seq : WRONG_SEQS) {
             due("known(2, " + seq + ")", bit(gate.known(2, seq)), 0);
